@@ -67,7 +67,12 @@ public final class PromisesTest {
     due("new best(4, 10)", x.best(4, 10), NONE);
     due("new least", x.least(0, 0), BAD);
     due("new does", x.does(0), BAD);
-    due("new can", x.can(0), 0);
+    due("new can(0)", x.can(0), 0);
+    due("new can(1)", x.can(1), 0);
+    due("new most", x.most(0), BAD);
+    due("new turns", x.turns(0, 0), BAD);
+    due("new eat", x.eat(0), BAD);
+    due("new see", x.see(0), BAD);
     for (int k = 0; k < 4; k++) due("new lay", x.lay(k, 0, 1), -11);
   }
 
@@ -138,6 +143,11 @@ public final class PromisesTest {
     faulty("raw 1 1234567890123;", 1, 6);
     faulty("  100", 1, 2);
     faulty("raw 1 1\t;", 1, 7);
+    String none = "`{AZ/:!\u0000\u007f";
+    for (int i = 0; i < none.length(); i++) faulty("raw 1 1; " + none.charAt(i), 1, 9);
+    faulty("az", 2, 0);
+    faulty("z", 2, 0);
+    faulty("raw 0 9;raw 9 0;raw 09 09;mix 02 00 09;have 04 40;", 6, 50);
     faulty("1", 2, 0);
     faulty(";", 2, 0);
     faulty("raw 1 1;;", 2, 8);
@@ -309,6 +319,14 @@ public final class PromisesTest {
     due("does(16), two more than 38", x.does(16), 0);
     x.fill(3, 1);
     due("does(6), one of two", x.does(6), STATE);
+    x.fill(0, 40);
+    x.fill(1, 0);
+    x.fill(2, 1);
+    due("does(12), A 40", x.does(12), STATE);
+    x.kind(2, 1);
+    due("does(12), boiled, A 40", x.does(12), STATE);
+    x.fill(0, 39);
+    due("does(12), boiled, A 39", x.does(12), 0);
   }
 
   private static void p13Eat() {
@@ -632,6 +650,11 @@ public final class PromisesTest {
     UncookMill none = new UncookMill();
     due("drift(1, 0, 0), no STUFFS", none.drift(1, 0, 0), BAD);
     due("drift(1, 1, 1), no STUFFS", none.drift(1, 1, 1), STATE);
+    due("drift, nothing done", of(KITCHEN.substring(0, KITCHEN.indexOf("have"))).drift(5, 60, 0), 0);
+    UncookMill once = of("raw 1 1;mix 0 0 1;have 0 40;");
+    int cooked = 0;
+    for (int s = 0; s < 40; s++) cooked += once.drift(s, 1, 0);
+    due("one time, one DOING at most", once.rule(2), cooked);
     due("drift, raw alone", of("raw 1 1;have 0 9;").drift(-7, 60, 1), 9);
   }
 
