@@ -38,7 +38,7 @@ public final class UncookMill {
     private static final int FAULTY = -10, REFUSED = -20;
 
     private final Kitchen kitchen = new Kitchen();
-    /** A text is read into it, and a read that is refused is undone by it. */
+    /** A text is read into it, a read that is refused is undone by it, a drift goes on in it. */
     private final Kitchen spare = new Kitchen();
     private final Tape tape = new Tape();
     private final TextReader reader = new TextReader(tape, spare);
@@ -392,18 +392,18 @@ public final class UncookMill {
         if (kitchen.size == 0) {
             return STATE;
         }
-        int before = kitchen.done;
+        spare.copyFrom(kitchen);
         int next = seed;
         for (int i = 0; i < n; i++) {
             next = next * SEED_FACTOR + SEED_STEP;
             int m = drawn(next) % kitchen.size;
             next = next * SEED_FACTOR + SEED_STEP;
             int doing = drawn(next) % 2 * TURNING + m;
-            if (kitchen.isAble(doing)) {
-                kitchen.perform(doing);
+            if (spare.isAble(doing)) {
+                spare.perform(doing);
             }
         }
-        return what == 0 ? kitchen.done - before : kitchen.things();
+        return what == 0 ? spare.done - kitchen.done : spare.things();
     }
 
     // ---- images, sheets

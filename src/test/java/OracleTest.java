@@ -288,14 +288,18 @@ public final class OracleTest {
     int drift(int seed, int n, int what) {
       if (n < 1 || n > 60 || what < 0 || what > 1) return BAD;
       if (w.stuffs.isEmpty()) return STATE;
+      World alone = w;
       int done = 0;
       for (int i = 0; i < n; i++) {
         seed = seed * 1103515245 + 12345;
         int m = (seed >> 16 & 32767) % w.stuffs.size();
         seed = seed * 1103515245 + 12345;
-        if (does(m + 10 * ((seed >> 16 & 32767) % 2)) >= 0) done++;
+        World next = alone.behind(m + 10 * ((seed >> 16 & 32767) % 2));
+        if (next == null) continue;
+        alone = next;
+        done++;
       }
-      return what == 0 ? done : w.things();
+      return what == 0 ? done : alone.things();
     }
 
     int cell(Object sheet, int lane, int i) {

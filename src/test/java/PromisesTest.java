@@ -624,25 +624,35 @@ public final class PromisesTest {
     due("pairs(1), burnt", x.pairs(1), 55);
   }
 
-  private static void p30Drift() {
-    UncookMill x = of(KITCHEN);
-    int seed = 12345;
+  /** The DOINGS of a drift, done one by one by does(): how many were. */
+  private static int driftByHand(UncookMill x, int seed, int n) {
     int done = 0;
-    UncookMill y = of(KITCHEN);
-    for (int i = 0; i < 60; i++) {
+    for (int i = 0; i < n; i++) {
       seed = seed * 1103515245 + 12345;
-      int m = ((seed >> 16) & 32767) % 7;
+      int m = ((seed >> 16) & 32767) % x.rule(0);
       seed = seed * 1103515245 + 12345;
       int turned = ((seed >> 16) & 32767) % 2;
-      if (y.does(m + 10 * turned) >= 0) done++;
+      if (x.does(m + 10 * turned) >= 0) done++;
     }
+    return done;
+  }
+
+  private static void sameKitchen(String behind, UncookMill x, UncookMill y) {
+    for (int m = 0; m < 8; m++)
+      for (int what = 0; what <= 6; what++) due(behind + ": stuff(" + m + ", " + what + ")", x.stuff(m, what), y.stuff(m, what));
+    for (int what = 0; what <= 4; what++) due(behind + ": rule(" + what + ")", x.rule(what), y.rule(what));
+    for (int what = 0; what <= 5; what++) due(behind + ": count(" + what + ")", x.count(what), y.count(what));
+  }
+
+  private static void p30Drift() {
+    UncookMill x = of(KITCHEN);
+    UncookMill byHand = of(KITCHEN);
+    int done = driftByHand(byHand, 12345, 60);
     due("something was done", done > 3 ? 1 : 0, 1);
     due("drift(12345, 60, 0)", x.drift(12345, 60, 0), done);
-    for (int m = 0; m < 7; m++) due("there", x.stuff(m, 6), y.stuff(m, 6));
-    due("HALF", x.stuff(3, 5), y.stuff(3, 5));
-    due("DOINGS", x.rule(2), done);
-    UncookMill z = of(KITCHEN);
-    due("drift(12345, 60, 1)", z.drift(12345, 60, 1), y.count(0));
+    due("drift(12345, 60, 1)", x.drift(12345, 60, 1), byHand.count(0));
+    due("drift(12345, 60, 0), again", x.drift(12345, 60, 0), done);
+    sameKitchen("drift", x, of(KITCHEN));
     due("drift(1, 0, 0)", x.drift(1, 0, 0), BAD);
     due("drift(1, 61, 0)", x.drift(1, 61, 0), BAD);
     due("drift(1, 1, 2)", x.drift(1, 1, 2), BAD);
@@ -651,11 +661,63 @@ public final class PromisesTest {
     due("drift(1, 0, 0), no STUFFS", none.drift(1, 0, 0), BAD);
     due("drift(1, 1, 1), no STUFFS", none.drift(1, 1, 1), STATE);
     due("drift, nothing done", of(KITCHEN.substring(0, KITCHEN.indexOf("have"))).drift(5, 60, 0), 0);
-    UncookMill once = of("raw 1 1;mix 0 0 1;have 0 40;");
-    int cooked = 0;
-    for (int s = 0; s < 40; s++) cooked += once.drift(s, 1, 0);
-    due("one time, one DOING at most", once.rule(2), cooked);
     due("drift, raw alone", of("raw 1 1;have 0 9;").drift(-7, 60, 1), 9);
+    driftOnce();
+    driftBeginsWithWhatThereIs();
+    driftAmongOtherCalls();
+  }
+
+  private static void driftOnce() {
+    UncookMill x = of("raw 1 1;mix 0 0 1;have 0 40;");
+    int cooked = 0;
+    for (int seed = 0; seed < 40; seed++) {
+      int done = x.drift(seed, 1, 0);
+      due("drift, once, is 0 or 1", done == 0 || done == 1 ? 1 : 0, 1);
+      due("things behind one", x.drift(seed, 1, 1), 40 - done);
+      cooked += done;
+    }
+    due("at times it CAN be, at times not", cooked > 0 && cooked < 40 ? 1 : 0, 1);
+    due("DOINGS behind drifts", x.rule(2), 0);
+  }
+
+  private static void driftBeginsWithWhatThereIs() {
+    String text = "raw 1 1;raw 1 1;salt 0 1 1;have 2 9;";
+    for (int seed = 0; seed < 20; seed++) {
+      UncookMill x = of(text);
+      UncookMill byHand = of(text);
+      x.does(12);
+      byHand.does(12);
+      due("drift from HALF 1 and DOINGS 1", x.drift(seed, 7, 0), driftByHand(byHand, seed, 7));
+      due("things then, by HALF 1", x.drift(seed, 7, 1), byHand.count(0));
+      due("HALF behind drift", x.stuff(2, 5), 1);
+      due("DOINGS behind drift", x.rule(2), 1);
+    }
+  }
+
+  private static void driftAmongOtherCalls() {
+    UncookMill x = of(KITCHEN);
+    UncookMill y = of(KITCHEN);
+    x.see(1);
+    y.see(1);
+    x.keep(0);
+    y.keep(0);
+    x.does(2);
+    y.does(2);
+    x.feed(114);
+    y.feed(114);
+    x.drift(99, 60, 0);
+    sameKitchen("drift behind does, see, feed", x, y);
+    due("back(0) behind drift", x.back(0), 0);
+    y.back(0);
+    sameKitchen("back behind drift", x, y);
+    x.sheet(0, 0, 2);
+    y.sheet(0, 0, 2);
+    x.lay(0, 0, 2);
+    y.lay(0, 0, 2);
+    x.drift(5, 60, 1);
+    due("read refused behind drift", x.read(0, 0, 0, 2), -21);
+    y.read(0, 0, 0, 2);
+    sameKitchen("read refused behind drift", x, y);
   }
 
   private static void p31Keep() {
