@@ -30,6 +30,8 @@ public final class BoundsOfMillTest extends Cases {
     leaves("19: comes, far too many", BUSY, x -> x.comes(6, MAX), NONE);
     leaves("19: comes, BAD ahead of NONE", BUSY, x -> x.comes(7, 5), BAD);
     leaves("19: comes, no thing 1 of a raw one", BUSY, x -> x.comes(0, 1), NONE);
+    run("19: comes, A ahead of B, the greater too", there("mix1 0 1;mix0 2 1;mix3 1 1;")).due(0, x -> x.comes(4, 0))
+        .due(1, x -> x.comes(4, 1)).due(0, x -> x.comes(4, 2)).due(1, x -> x.comes(4, 3)).due(1, x -> x.comes(2, 0));
     run("19: comes, a raw one itself", BUSY).due(1, x -> x.comes(1, 0));
     run("19: comes, a burnt one itself", BUSY).due(5, x -> x.comes(5, 0)).due(NONE, x -> x.comes(5, 1));
     run("19: comes, the last of 128", doubling("mix")).due(0, x -> x.comes(7, 127)).due(NONE, x -> x.comes(7, 128))

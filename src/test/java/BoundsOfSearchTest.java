@@ -109,7 +109,7 @@ public final class BoundsOfSearchTest extends Cases {
     run("26: see, the 8th", seen(told(SEVEN), 0, 0, 0, 0, 0, 0, 0)).due(8, x -> x.see(1)).due(8, x -> x.count(2))
         .due(FULL, x -> x.see(1));
     Beginning eight = seen(told(SEVEN), 0, 1, 0, 1, 1, 0, 0, 1);
-    leaves("26: see, the 9th is FULL", eight, x -> x.see(0), FULL);
+    for (int y : new int[] {0, 1, 6}) leaves("26: see, the 9th is FULL, " + y, eight, x -> x.see(y), FULL);
     leaves("26: see, BAD ahead of FULL, too large", eight, x -> x.see(7), BAD);
     leaves("26: see, BAD ahead of FULL, too small", eight, x -> x.see(-1), BAD);
     run("26: see, room again behind forget", eight).due(8, x -> x.forget(7)).due(8, x -> x.see(0))
@@ -161,6 +161,8 @@ public final class BoundsOfSearchTest extends Cases {
     run("29: pairs, each begins with HALF 0", seen(halved("salt0 1 1;"), 0, 0)).due(3, x -> x.pairs(0))
         .due(0, x -> x.pairs(1));
     leaves("29: pairs changes nothing", BUSY, x -> x.pairs(0), 3);
+    leaves("29: pairs, BAD ahead of NONE, too large", told(SEVEN), x -> x.pairs(2), BAD);
+    leaves("29: pairs, BAD ahead of NONE, too small", told(SEVEN), x -> x.pairs(-1), BAD);
     leaves("29: pairs, there is none", seen(told(SEVEN), 2), x -> x.pairs(1), NONE);
   }
 

@@ -143,8 +143,17 @@ public final class BoundsOfSheetsTest extends Cases {
     leaves("35: read, k BAD ahead of a FAULT", BUSY, x -> x.read(4, 0, -1, 1), BAD);
     leaves("35: read, lane BAD ahead of NULL", BUSY, x -> x.read(3, 3, -1, 1), BAD);
     leaves("35: read, n BAD ahead of CAST", BUSY, x -> x.read(0, 1, 0, 21), BAD);
+    readNone();
     readFaults();
     readRefused();
+  }
+
+  /** Where n is 0 no CELL is read, so the machine finds no FAULT: a choice that the document leaves (NOTES.md). */
+  private static void readNone() {
+    run("35: read, no DOING of nothing", BUSY).due(0, x -> x.read(3, 0, 0, 0)).due(0, x -> x.torn());
+    run("35: read, no DOING as of another lane", BUSY).due(0, x -> x.read(0, 1, 0, 0)).due(0, x -> x.torn());
+    run("35: read, no DOING at no CELL", BUSY).due(0, x -> x.read(0, 0, 40, 0)).due(0, x -> x.torn());
+    torn("no DOING changes nothing but torn()", BUSY, x -> x.read(0, 0, 0, 0), 0);
   }
 
   /** What the machine refuses at once: none was done, and torn() tells the FAULT. */
@@ -176,6 +185,9 @@ public final class BoundsOfSheetsTest extends Cases {
         .due(2, x -> x.torn()).due(2, x -> x.rule(2)).due(2, x -> x.stuff(2, 6)).due(7, x -> x.stuff(0, 6));
     run("35: read, INDEX behind the last CELL, 20", two).due(1, x -> x.read(1, 1, 1, 20)).due(2, x -> x.torn())
         .due(1, x -> x.rule(2));
+    Beginning nineteen = rowOf(there("mix0 1 1;", 40, 40, 0), 2, 2, 19, 2);
+    run("35: read, INDEX at the last of 20", nineteen).due(19, x -> x.read(2, 2, 0, 20)).due(2, x -> x.torn())
+        .due(19, x -> x.rule(2));
     run("35: read, up to the last CELL", two).due(2, x -> x.read(1, 1, 0, 2)).due(0, x -> x.torn());
   }
 
@@ -214,6 +226,7 @@ public final class BoundsOfSheetsTest extends Cases {
     run("36: torn, of read alone: text", BUSY).due(2, x -> x.text()).due(2, x -> x.torn());
     run("36: torn, of read alone: back", BUSY).due(6, x -> x.back(1)).due(2, x -> x.torn());
     leaves("36: torn changes nothing", BUSY, x -> x.torn(), 2);
+    leaves("37: count, BAD ahead of NONE", NEW, x -> x.count(6), BAD);
     bounds("37: count, what", 0, 5, (x, what) -> x.count(what));
     run("37: count, things, the most", then(told(EIGHT_RAW), x -> fillAll(x, 40))).due(320, x -> x.count(0))
         .due(320, x -> x.count(1));
